@@ -158,6 +158,12 @@ public final class AloneTest {
         x.pace(1, 0, 29, 5);
         Due.due("paces as they are count not", x.even(1), 2);
         Due.due("nothing changed", x.paceOf(1, 17), 5);
+        SpoonRace two = Due.raceOf("runner arm 0 spoon 0; pick 66; bump 10 to 29");
+        two.pace(0, 0, 29, 9);
+        int quick = two.mean(0, 0, 0);
+        two.pace(0, 0, 29, 2);
+        Due.due("2 and 9 are alike", two.mean(0, 0, 0), quick);
+        Due.due("the least pace of two", two.even(0), 2);
         Due.due("even(2)", x.even(2), Due.BEYOND);
         Due.due("even(-1)", x.even(-1), Due.BEYOND);
     }
@@ -193,6 +199,22 @@ public final class AloneTest {
         Due.due("spoon(0)", x.spoon(0), 2);
         Due.due("nothing changed", x.of(0, 2), 5);
         Due.due("no odds: the least", x.spoon(1), 0);
+        // With spoon 1 odds are 1 on eight thistles, 1875 each; with spoon 2 there are none.
+        SpoonRace two = Due.raceOf("runner arm 8; pick 45");
+        for (int y = 0; y < 30; y += 4) {
+            two.ground(y, 2);
+        }
+        Due.due("with spoon 1", two.mean(0, 0, 0), 255000);
+        Due.due("1 and 2 are alike together: the least", two.spoon(0), 1);
+        two.pick(46);
+        Due.due("2 is less", two.spoon(0), 2);
+        two.pick(44);
+        Due.due("1 is less", two.spoon(0), 1);
+        SpoonRace near = Due.raceOf("looker arm 2 spoon 0 pace 9; pick 31; bump 16 to 23");
+        int without = near.mean(0, 0, 0);
+        near.change(0, 2, 1);
+        Due.due("one more than a spoon weighs", without - near.mean(0, 0, 0), 15001);
+        Due.due("so it is worth it", near.spoon(0), 1);
         Due.due("spoon(2)", x.spoon(2), Due.BEYOND);
         Due.due("spoon(-1)", x.spoon(-1), Due.BEYOND);
     }

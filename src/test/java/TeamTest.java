@@ -94,13 +94,10 @@ public final class TeamTest {
             Due.due("suspect(" + w[0] + ", " + w[1] + ", " + w[2] + ")",
                     x.suspect(w[0], w[1], w[2]), Due.BEYOND);
         }
-        // A half just: odds 12.
-        SpoonRace half = Due.raceOf("rusher arm 0 spoon 0 pace 6; thistle 0");
-        Due.due("13 of 24 is no half", half.suspect(0, 0, 1), Due.NONE);
-        half.change(0, 0, 2);
-        half.change(0, 2, 0);
-        Due.due("odds of a looker", half.odds(0, 0, 6, 0), 11);
-        Due.due("no half either", half.suspect(0, 0, 1), Due.NONE);
+        // Odds 8 and 6: 16 times 18 is just half of 24 times 24.
+        SpoonRace half = Due.raceOf("runner arm 0 spoon 0 pace 6; turn 0");
+        Due.due("just twice", half.suspect(0, 0, 2), 0);
+        Due.due("less than twice", half.suspect(0, 1, 2), Due.NONE);
     }
 
     private static void rain() {
