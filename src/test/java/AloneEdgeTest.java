@@ -25,6 +25,7 @@ public final class AloneEdgeTest {
         armFor();
         armForNone();
         askedAgain();
+        whereverHeIs();
         Due.end();
     }
 
@@ -212,6 +213,9 @@ public final class AloneEdgeTest {
         Script.taken(Script.plus(WEAK, "pick 99"), "costs 0 29", 99000);
         Script.unchanged(WEAK, "costs 0 28", 25000 + 13208 - 10083);
         Script.unchanged(WEAK, "costs 0 27", 25000 + 26416 - 20426);
+        // With three yards behind it, on all of which he is SHAKEN: 37665 were it for two.
+        Script.taken(WEAK, "mean 0 27 2", 37665);
+        Script.unchanged(WEAK, "costs 0 26", 25000 + 39624 - 31008);
     }
 
     /** The YARD on which, were it GRASS, MEAN would be least; of several the least number. */
@@ -296,6 +300,40 @@ public final class AloneEdgeTest {
                     k == 0 ? 110075314176L : 0);
         }
         Script.taken(Script.plus(others, "drops 0 0 10 10", "drops 0 0 10 1"), "drops 1 0 10 1", 0);
+    }
+
+    /** From YARD 0 on, not SHAKEN, or LEAST (y, 0): whatever YARD, SHAKEN and DROPS he has. */
+    private static void whereverHeIs() {
+        String[][] asked = {
+            {"runner 3 0 2;pick 61;ground 0 1;ground 19 2", "even 0", "2"},
+            {"runner 1 6 3;pick 85;pace 0 0 29 8;ground 1 4;ground 18 2", "worst 0", "0"},
+            {"runner 3 4 3;pick 87;pace 0 0 29 2;ground 3 2", "spoon 0", "0"},
+            {"runner 0 0 0;runner 0 0 0", "later 0", "0"},
+            {"runner 0 0 0;runner 0 0 0", "later 1", "0"},
+            {"runner 5 4 1", "train 0", "30"},
+            {"runner 0 0 0;ground 29 1", "worst 0", "29"},
+        };
+        String[] states = {"change 0 3 7", "change 0 3 29", "change 0 3 30", "change 0 5 1",
+            "change 0 5 3", "steps 30"};
+        for (String[] a : asked) {
+            String[] setup = a[0].split(";");
+            Script.taken(setup, a[1], Integer.parseInt(a[2]));
+            for (String state : states) {
+                Script.taken(Script.plus(setup, state), a[1], Integer.parseInt(a[2]));
+            }
+        }
+        long mean = new Script(WEAK).ask("mean 0 0 0");
+        for (String state : states) {
+            String[] weak = Script.plus(WEAK, state);
+            Script.taken(weak, "armFor 0 " + mean, 0);
+            Script.taken(weak, "mean 0 28 1", 23942);
+            Script.taken(weak, "least 0 29 0", 6125);
+            Script.taken(weak, "best 0 29 0", 9);
+            Script.taken(weak, "costs 0 28", 25000 + 13208 - 10083);
+            Script.taken(weak, "clean 0 0 3", 22 * 22 * 22);
+            Script.taken(weak, "drops 0 0 2 1", 2 * (19 + 22));
+            Script.taken(weak, "gum 0 0 2 1 1", 2 * (19 + 22));
+        }
     }
 
     /** NONE, behind BEYOND: v below 0 is BEYOND, though no ARM would do. */

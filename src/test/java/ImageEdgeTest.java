@@ -178,6 +178,11 @@ public final class ImageEdgeTest {
             Script.taken(all, "status " + which, 1);
         }
         Script.taken(all, "status -1", 7);
+        // As many as an object can be asked.
+        String[] many = Script.plus(Script.times(300, "pick 100"), Script.times(205, "next"));
+        Script.taken(many, "status 0", 300);
+        Script.taken(many, "status 3", 205);
+        Script.taken(many, "status -1", 505);
     }
 
     /** Answers below 0 that are no findings: a FAULT, nobody, a z. */

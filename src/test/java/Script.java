@@ -28,6 +28,8 @@ final class Script {
     /** An object is used for so many calls: no test asks more of one. */
     private static final int MOST_CALLS = 512;
     private static final int FINDINGS = 7;
+    // Counts, runners, spots, ground, sheets, the tape, the image.
+    private static final int PARTS = 7;
     private static final Map<String, Method> METHODS = methods();
 
     private final SpoonRace x = new SpoonRace();
@@ -110,34 +112,73 @@ final class Script {
         return answer;
     }
 
-    /** What can be seen of the object but status() and the image; it is used up then. */
-    private List<String> whole() {
+    /**
+     * What can be seen of the object but status() and the image; it is used up then. It is looked
+     * at from one end and from the other one: what a question itself changes is seen only by
+     * those that come behind it.
+     */
+    private List<String> whole(boolean isBack) {
         List<String> seen = new ArrayList<>();
-        seeRunners(seen);
-        for (int i = 0; i < 10; i++) {
-            see(seen, "as " + i + " 0");
+        for (int part = 0; part < PARTS; part++) {
+            seePart(seen, isBack ? PARTS - 1 - part : part, isBack);
         }
-        seeGround(seen);
-        // A runner by whom sheets can be looked at, if there was none.
-        see(seen, "runner 0 0 0");
-        for (int s = 0; s < 4; s++) {
-            see(seen, "copy " + s + " 0 0 0 0");
-            see(seen, "copy " + s + " 0 2 0 0");
-            long came = see(seen, "load " + s + " 0");
-            for (int i = 0; i < came; i++) {
-                see(seen, "paceOf 0 " + i);
-            }
-        }
-        see(seen, "text");
-        see(seen, "count 4");
-        see(seen, "tear");
         return seen;
     }
 
-    private void seeRunners(List<String> seen) {
+    private void seePart(List<String> seen, int part, boolean isBack) {
+        switch (part) {
+            case 0:
+                seeCounts(seen);
+                break;
+            case 1:
+                seeRunners(seen);
+                break;
+            case 2:
+                seeSpots(seen);
+                break;
+            case 3:
+                seeGround(seen);
+                break;
+            case 4:
+                seeSheets(seen, isBack);
+                break;
+            case 5:
+                see(seen, "text");
+                see(seen, "pick 25");
+                break;
+            default:
+                see(seen, "tear");
+                break;
+        }
+    }
+
+    private void seeCounts(List<String> seen) {
         for (int what = 0; what < 8; what++) {
             see(seen, "count " + what);
         }
+    }
+
+    private void seeSpots(List<String> seen) {
+        for (int i = 0; i < 10; i++) {
+            see(seen, "as " + i + " 0");
+        }
+    }
+
+    private void seeSheets(List<String> seen, boolean isBack) {
+        // A runner by whom sheets can be looked at, if there was none.
+        see(seen, "runner 0 0 0");
+        for (int i = 0; i < 4; i++) {
+            int s = isBack ? 3 - i : i;
+            long came = see(seen, "load " + s + " 0");
+            for (int y = 0; y < came; y++) {
+                see(seen, "paceOf 0 " + y);
+            }
+            see(seen, "copy " + s + " 0 0 0 0");
+            see(seen, "copy " + s + " 0 2 0 0");
+        }
+    }
+
+    private void seeRunners(List<String> seen) {
         long runners = ask("count 0");
         for (int r = 0; r < runners; r++) {
             for (int what = 0; what < 8; what++) {
@@ -201,6 +242,21 @@ final class Script {
         same("nothing changed", setup, plus(setup, call));
     }
 
+    /** Behind these calls the call changes what these lines tell, and nothing else. */
+    static void changes(String[] setup, String call, String... lines) {
+        List<String> before = new Script(setup).whole(false);
+        List<String> behind = new Script(plus(setup, call)).whole(false);
+        Due.due(told(setup, call) + ": how much there is to see", behind.size(), before.size());
+        List<String> changed = new ArrayList<>();
+        for (int i = 0; i < Math.min(before.size(), behind.size()); i++) {
+            if (!before.get(i).equals(behind.get(i))) {
+                changed.add(behind.get(i));
+            }
+        }
+        Due.holds(told(setup, call) + " changed " + changed + ", due is "
+                + Arrays.toString(lines), changed.equals(Arrays.asList(lines)));
+    }
+
     /** Questions asked of one object, in turn and back, are answered as by one that is asked that alone. */
     static void again(String[] setup, String... questions) {
         Script one = new Script(setup);
@@ -219,8 +275,13 @@ final class Script {
     }
 
     private static void compare(String what, String[] one, String[] other) {
-        List<String> first = new Script(one).whole();
-        List<String> second = new Script(other).whole();
+        compare(what, one, other, false);
+        compare(what, one, other, true);
+    }
+
+    private static void compare(String what, String[] one, String[] other, boolean isBack) {
+        List<String> first = new Script(one).whole(isBack);
+        List<String> second = new Script(other).whole(isBack);
         Due.due(what + ": how much there is to see behind " + String.join("; ", other),
                 second.size(), first.size());
         for (int i = 0; i < Math.min(first.size(), second.size()); i++) {

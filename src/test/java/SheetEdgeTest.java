@@ -242,6 +242,13 @@ public final class SheetEdgeTest {
             Script.taken(two, "paceOf 0 " + i, paces[i]);
         }
         Script.taken(two, "load 0 0", 6);
+        // With all their bits: 5 by the lowest of them alone is no pace.
+        int[][] wide = {{8, 0x105, 1}, {16, 0x105, 0}, {16, 0x10005, 1}, {32, 0x105, 0},
+            {32, 0x10005, 0}, {32, MIN + 5, 0}, {32, 5, 1}};
+        for (int[] w : wide) {
+            Script.taken(Script.calls("runner 5 4 1", "sheet 0 " + w[0] + " 1", "sheet 3 " + w[0]
+                    + " 1", "write 0 0 " + w[1], "copy 0 0 3 0 1"), "load 3 0", w[2]);
+        }
     }
 
     /** BEYOND: no such sheet. MISSING. BEYOND: no such RUNNER. */

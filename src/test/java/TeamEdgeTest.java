@@ -38,6 +38,8 @@ public final class TeamEdgeTest {
         Script.unchanged(SIX, "later 5", 0);
         // From YARD 0 on, not SHAKEN, wherever they are.
         Script.unchanged(Script.plus(quicker, "change 2 3 30", "change 0 5 3"), "later 2", 150);
+        Script.unchanged(Script.plus(quicker, "change 0 3 30"), "later 2", 150);
+        Script.unchanged(Script.plus(quicker, "steps 180"), "later 1", 30);
         Script.taken(Script.plus(SIX, "pace 5 0 29 3"), "later 0", 30);
         Script.taken(Script.plus(SIX, "pace 5 0 29 3"), "later 5", 0);
     }
@@ -53,6 +55,11 @@ public final class TeamEdgeTest {
             Script.taken(picked, "later 1", p[2]);
             Script.taken(picked, "later 0", 0);
         }
+        // 85309 by 1000, though 393 less 307 is 86: the rest is of the difference.
+        String[] rests = {"read child arm 1 pace 2;pick 18;slick 2;turn 27", "runner 0 0 0"};
+        Script.taken(rests, "mean 0 0 0", 393000);
+        Script.taken(rests, "mean 1 0 0", 307691);
+        Script.taken(rests, "later 1", 85);
         String[] far = {"read rusher arm 0 spoon 0 pace 6;thistle 0 to 29;pick 99;gum pace 9"};
         Script.taken(far, "mean 0 0 0", 1828165);
         Script.taken(far, "later 1", 1738);
