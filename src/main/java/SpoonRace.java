@@ -37,6 +37,7 @@ public final class SpoonRace {
     private static final int SHEETS = 4;
     private static final int MOST_NUMBERS = 40;
     private static final int MOST_BYTES = 120;
+    private static final int MORE_THAN_ANY = 0x7fffffff;
 
     private static final int STEADY = 1;
     private static final int LOOKER = 2;
@@ -304,7 +305,7 @@ public final class SpoonRace {
             return found(BEYOND);
         }
         trial.become(meet);
-        int least = Integer.MAX_VALUE;
+        int least = MORE_THAN_ANY;
         int evenPace = 1;
         for (int pace = 1; pace <= MOST_PACE; pace++) {
             Arrays.fill(trial.runners[runner].paces, pace);
@@ -331,7 +332,7 @@ public final class SpoonRace {
             return found(BEYOND);
         }
         trial.become(meet);
-        int least = Integer.MAX_VALUE;
+        int least = MORE_THAN_ANY;
         int worstYard = 0;
         for (int y = 0; y < YARDS; y++) {
             trial.grounds[y] = 0;
@@ -350,7 +351,7 @@ public final class SpoonRace {
             return found(BEYOND);
         }
         trial.become(meet);
-        int least = Integer.MAX_VALUE;
+        int least = MORE_THAN_ANY;
         int bestSpoon = 0;
         for (int spoon = 0; spoon <= MOST_SPOON; spoon++) {
             trial.runners[runner].spoon = spoon;
@@ -1046,7 +1047,7 @@ public final class SpoonRace {
         }
 
         private int bestPace(Meet m, Runner r, int y, int s) {
-            int least = Integer.MAX_VALUE;
+            int least = MORE_THAN_ANY;
             int best = 1;
             for (int pace = 1; pace <= MOST_PACE; pace++) {
                 int mean = through(m, r, y, s, pace);
@@ -1125,7 +1126,7 @@ public final class SpoonRace {
                             means.atPaces(m, i, l * LEG, (l + 1) * LEG, 0);
                 }
             }
-            least = Integer.MAX_VALUE;
+            least = MORE_THAN_ANY;
             for (int a = 0; a < m.size; a++) {
                 for (int b = 0; b < m.size; b++) {
                     for (int c = 0; c < m.size; c++) {

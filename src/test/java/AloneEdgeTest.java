@@ -154,6 +154,10 @@ public final class AloneEdgeTest {
         Script.taken(Script.plus(WEAK, "pick 84"), "best 0 29 0", 2);
         Script.taken(Script.plus(WEAK, "pick 85"), "best 0 29 0", 2);
         Script.taken(Script.plus(WEAK, "pick 84"), "least 0 29 0", 13500);
+        // One thousandth less is enough: 98044 at pace 2, 98043 at pace 9.
+        String[] near = {"read child arm 5 spoon 2;pick 76;bump 5 to 29"};
+        Script.taken(near, "least 0 25 3", 98043);
+        Script.taken(near, "best 0 25 3", 9);
         // By LEAST behind it, not by MEAN: at 28 with 83 both s count.
         Script.taken(Script.plus(WEAK, "pick 83"), "best 0 28 0", 2);
     }
@@ -201,6 +205,11 @@ public final class AloneEdgeTest {
         long mean = new Script(Script.plus(alike, "pace 0 0 29 9")).ask("mean 0 0 0");
         Script.taken(Script.plus(alike, "pace 0 0 29 2"), "mean 0 0 0", mean);
         Script.taken(alike, "even 0", 2);
+        // One thousandth less is enough.
+        String[] near = {"read runner arm 2;pick 86;slick 22 to 26;slick 28"};
+        Script.taken(Script.plus(near, "pace 0 0 29 4"), "mean 0 0 0", 326518);
+        Script.taken(Script.plus(near, "pace 0 0 29 9"), "mean 0 0 0", 326517);
+        Script.taken(near, "even 0", 9);
     }
 
     /** A YARD 0 to 29; behind the last there is nothing but PICK. */
@@ -235,6 +244,11 @@ public final class AloneEdgeTest {
         Script.taken(two, "worst 0", 7);
         Script.taken(Script.plus(two, "ground 29 2"), "worst 0", 7);
         Script.taken(Script.plus(two, "ground 7 0"), "worst 0", 20);
+        // One thousandth less is enough.
+        String[] near = {"read steady arm 0 pace 3;pick 78;slick 12 to 29"};
+        long mean = new Script(Script.plus(near, "ground 19 0")).ask("mean 0 0 0");
+        Script.taken(Script.plus(near, "ground 20 0"), "mean 0 0 0", mean - 1);
+        Script.taken(near, "worst 0", 20);
         // A bump makes no odds, so it is as good as grass.
         Script.taken(Script.calls("runner 0 8 1", "ground 3 1"), "worst 0", 0);
     }

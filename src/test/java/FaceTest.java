@@ -27,6 +27,12 @@ public final class FaceTest {
         "int count(int)", "int status(int)",
     };
 
+    // What a static field may be, and what of the library the program uses.
+    private static final Set<String> CONSTANTS =
+            Set.of("int", "long", "boolean", "char", "String", "int[]", "long[]", "char[]", "byte[]");
+    private static final Set<String> LIBRARY = Set.of("Arrays.fill", "Integer.bitCount",
+            "Math.abs", "Math.max", "Math.min", "System.arraycopy");
+
     public static void main(String[] args) throws Exception {
         face();
         for (Class<?> inside : SpoonRace.class.getDeclaredClasses()) {
@@ -77,6 +83,8 @@ public final class FaceTest {
             fields += isStatic ? 0 : 1;
             Due.holds(f + " is final or not static",
                     !isStatic || Modifier.isFinal(f.getModifiers()));
+            Due.holds(f + " is a constant or not static",
+                    !isStatic || CONSTANTS.contains(f.getType().getSimpleName()));
         }
         Due.holds(type + " has some twenty fields at most", fields <= 20);
         for (Method m : type.getDeclaredMethods()) {
@@ -104,6 +112,7 @@ public final class FaceTest {
         while (bad.find()) {
             Due.holds("'" + bad.group() + "' is not in the program", false);
         }
+        library(code);
         Matcher imports = Pattern.compile("import ([^;]*);").matcher(code);
         while (imports.find()) {
             Due.holds("import " + imports.group(1), imports.group(1).equals("java.util.Arrays"));
@@ -117,5 +126,23 @@ public final class FaceTest {
             Due.holds("short: " + lines[0], lines.length <= 60);
         }
         Due.holds("the methods are found", methods > 100);
+    }
+
+    /** Of other classes only what LANGUAGE.md lists; new are arrays and objects of its own. */
+    private static void library(String code) {
+        Set<String> own = new TreeSet<>();
+        for (Class<?> inside : SpoonRace.class.getDeclaredClasses()) {
+            own.add(inside.getSimpleName());
+        }
+        Matcher used = Pattern.compile("\\b([A-Z][a-z]\\w*)\\.(\\w+)").matcher(code);
+        while (used.find()) {
+            Due.holds(used.group() + " may be used",
+                    own.contains(used.group(1)) || LIBRARY.contains(used.group()));
+        }
+        Matcher made = Pattern.compile("\\bnew (\\w+)(.)").matcher(code);
+        while (made.find()) {
+            boolean isRow = made.group(2).equals("[") && Set.of("int", "long").contains(made.group(1));
+            Due.holds(made.group() + " may be made", isRow || own.contains(made.group(1)));
+        }
     }
 }

@@ -60,6 +60,15 @@ public final class TeamEdgeTest {
         Script.taken(rests, "mean 0 0 0", 393000);
         Script.taken(rests, "mean 1 0 0", 307691);
         Script.taken(rests, "later 1", 85);
+        // The greatest by one thousandth: 90000 less than 300001 is 210001.
+        String[] near = {"read pick 86;thistle 22 to 24", "runner 2 9 1", "pace 0 0 29 7",
+            "runner 3 8 2", "pace 1 0 29 1", "runner 6 7 2", "pace 2 0 29 7"};
+        int[] means = {210001, 300000, 300001};
+        int[] later = {90, 0, 0};
+        for (int r = 0; r < 3; r++) {
+            Script.taken(near, "mean " + r + " 0 0", means[r]);
+            Script.taken(near, "later " + r, later[r]);
+        }
         String[] far = {"read rusher arm 0 spoon 0 pace 6;thistle 0 to 29;pick 99;gum pace 9"};
         Script.taken(far, "mean 0 0 0", 1828165);
         Script.taken(far, "later 1", 1738);
@@ -126,6 +135,14 @@ public final class TeamEdgeTest {
             Script.taken(back, "leg 63 " + i, backLegs[i]);
         }
         Script.taken(back, "team 63", 140000);
+        // One thousandth less is enough.
+        String[] near = {"read pick 1;thistle 0 to 27;slick 28 to 29", "runner 2 2 1",
+            "pace 0 0 29 1", "runner 6 0 3", "pace 1 0 29 9", "runner 1 6 2", "pace 2 0 29 7"};
+        Script.taken(near, "team 7", 225714);
+        int[] nearLegs = {1, 2, 0};
+        for (int i = 0; i < 3; i++) {
+            Script.taken(near, "leg 7 " + i, nearLegs[i]);
+        }
         // As quick on all: the first leg goes to the least number all the same.
         String[] all = Script.plus(SIX, "pace 4 0 29 9");
         int[] legs = {0, 1, 4};
