@@ -258,6 +258,14 @@ public final class TextEdgeTest {
         for (Object[] f : faults) {
             fault((String) f[0], (Integer) f[1]);
         }
+        // Where a NUMBER is due nothing else can stand, and the FAULT is there.
+        String[] heads = {"bump ", "bump 3 to ", "pick ", "gum arm ", "gum spoon ", "gum pace "};
+        String[] others = {"; 3", "gum 3", "to 3", "arm 3", "spoon 3", "pace 3", "#3", "-1", "x"};
+        for (String head : heads) {
+            for (String other : others) {
+                fault(head + other, head.length());
+            }
+        }
     }
 
     /** The WORD of a 7th RUNNER: its own place, with those that there are. */
